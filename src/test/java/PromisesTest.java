@@ -268,7 +268,9 @@ public final class PromisesTest {
         is("wear", x.bell(1, 0, 1), 0);
         is("rung so far", x.bell(1, 0, 3), 1);
         is("splice(1, 0) again", x.splice(1, 0), NOT_POSSIBLE);
-        x.undo();
+        is("states", x.count(9), 5);
+        is("undo()", x.undo(), 4);
+        is("ringers, which are not undone", x.town(1, 1), 4);
         is("undone wear", x.bell(1, 0, 1), 1);
         is("undone tired", x.town(1, 2), 2);
 
@@ -279,6 +281,7 @@ public final class PromisesTest {
         is("splice(1, 0) of a broken rope", y.splice(1, 0), 6);
         is("no broken rope", y.count(2), 0);
         is("rings again", y.bell(1, 0, 4), 0);
+        is("states", y.count(9), 4);
     }
 
     private static void feast() {
@@ -911,6 +914,7 @@ public final class PromisesTest {
         }
         is("bestPlan(2)", x.bestPlan(2), 0);
         x.hang(2, 3);
+        is("bestPlan(2) of one bell", x.bestPlan(2), 1);
         x.hang(2, 2);
         x.hang(2, 1);
         x.feast(2, 5);
