@@ -85,6 +85,13 @@ final class TextBoundaries extends Boundaries {
             boolean isLetter = first == 'p' || first == 's' || first == 't';
             is("fault of \"" + first + "\"", fault(String.valueOf(first)), isLetter ? 1 : 0);
         }
+        for (char next = 32; next <= 126; next++) {
+            for (String full : new String[] {"s00", "s54", "t1", "t9", "p04", "p001234"}) {
+                int length = full.length();
+                is("fault of " + full + next, fault(full + next),
+                    next == ';' ? length + 1 : length);
+            }
+        }
     }
 
     /** Each character in each place where a digit is due. */
